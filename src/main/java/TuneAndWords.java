@@ -779,7 +779,7 @@ public final class TuneAndWords {
                     case NUMBER: stack[top++] = with[at]; break;
                     case NAME: stack[top++] = Cells.at(names, with[at]); break;
                     case NEGATE: stack[top - 1] = -stack[top - 1]; break;
-                    case '!': stack[top - 1] = truth(stack[top - 1] == 0); break;
+                    case '!': stack[top - 1] = stack[top - 1] == 0 ? 1 : 0; break;
                     case COUNTS: return stack[top - 1];
                     case IF:
                         top--;
@@ -795,11 +795,11 @@ public final class TuneAndWords {
 
         private static int both(int operator, int a, int b) {
             switch (operator) {
-                case '|': return truth(a != 0 || b != 0);
-                case '&': return truth(a != 0 && b != 0);
-                case '<': return truth(a < b);
-                case '=': return truth(a == b);
-                case '>': return truth(a > b);
+                case '|': return a != 0 || b != 0 ? 1 : 0;
+                case '&': return a != 0 && b != 0 ? 1 : 0;
+                case '<': return a < b ? 1 : 0;
+                case '=': return a == b ? 1 : 0;
+                case '>': return a > b ? 1 : 0;
                 case '+': return a + b;
                 case '-': return a - b;
                 case '*': return a * b;
@@ -807,10 +807,6 @@ public final class TuneAndWords {
                 case '%': return b == 0 ? 0 : a % b;
                 default: return 0;
             }
-        }
-
-        private static int truth(boolean so) {
-            return so ? 1 : 0;
         }
     }
 
