@@ -952,7 +952,7 @@ public final class TuneAndWords {
         }
     }
 
-    /** What has been sung of a SONG in one singing, and how it came out. */
+    /** What has been sung of a SONG in one singing; how it came out and where, once it has. */
     private static final class Singing {
         private final int[] lines = new int[SUNG_MOST];
         private final int[] by = new int[SUNG_MOST];
@@ -982,7 +982,6 @@ public final class TuneAndWords {
             Cells.set(by, sung, singer);
             Cells.set(times, line, Cells.at(times, line) + 1);
             sung++;
-            where = line;
         }
 
         void comeOut(int how, int line) {

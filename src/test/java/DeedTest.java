@@ -10,6 +10,7 @@ final class DeedTest {
         imageWithoutSinging();
         promise27And28();
         fortyChanges();
+        fortyUnlikeChanges();
         whatIsNoChange();
         Check.end("DeedTest");
     }
@@ -178,6 +179,10 @@ final class DeedTest {
         Check.due("goes on", 3, x.on());
         // By the law all that was sung once has 0 now, but the next one has more.
         Check.due("ends", -2, x.on());
+        x.begin(2);
+        x.on();
+        Check.due("another one's lines are not taken along", 1, x.back());
+        Check.due("behind 1", 2, x.on());
         x.begin(1);
         Check.due("twice", 1, x.back());
         led("as it was", x, 1, 2, 0, 2, 2);
@@ -258,6 +263,18 @@ final class DeedTest {
         Check.due("forty", 40, x.count(3));
         Check.due("undo", 39, x.undo());
         Check.due("one", 0, x.redo());
+    }
+
+    /** Changes of unlike kinds, the first of which are no longer kept. */
+    private static void fortyUnlikeChanges() {
+        TuneAndWords x = Given.tunes(0, 0, 0, 0, 0, 0);
+        for (int i = 0; i < 60; i++) x.mend(i % 6, i % 3, i / 6 % 7 + 1);
+        for (int i = 59; i >= 20; i--) {
+            Check.due("of line " + i % 6, i / 6 % 7 + 1, x.of(i % 6, i % 3));
+            Check.due("undo", i - 20, x.undo());
+            Check.due("of line " + i % 6, i < 6 ? 0 : (i - 6) / 6 % 7 + 1, x.of(i % 6, i % 3));
+        }
+        Check.due("none", -5, x.undo());
     }
 
     private static void whatIsNoChange() {

@@ -186,6 +186,10 @@ final class HeardTest {
         Check.due("at the third", 2, x.mixed(0, 1));
         Check.due("its place in the singing", 1, x.mixed(1, 1));
         Check.due("its place in the singing", 0, x.mixed(2, 1));
+        Given.learn(x, 3, 1, 0, 0);
+        x.mend(100, 0, 0);
+        Check.due("by the first line of the other", 0, x.mixed(0, 1));
+        x.undo();
         x.has(0, 2, 1, 0);
         Check.due("a line that sticks is not sung", -2, x.mixed(0, 1));
         Check.due("the other way", 1, x.mixed(100, 0));

@@ -245,6 +245,8 @@ final class SongsTest {
         Check.due("without a first E it counts", 1, x.sing(0, 0));
         Check.due("none counts", 1, Given.law(x, "0?9;a<0?9;(0|0)?9"));
         Check.due("none counts: 0", 1, x.sing(0, 0));
+        Check.due("all of a second E", 1, Given.law(x, "1?0|0-1&!(!(!(0)));0"));
+        Check.due("all of a second E", 60, x.sing(0, 0));
         Check.due("the last counts", 1, Given.law(x, "0?9;a<0?9;-1?9"));
         Check.due("below 0 is not 0", 60, x.sing(0, 0));
         Check.due("three lines", 1, Given.law(x, "a?0-1;!a?5;9"));
@@ -258,7 +260,8 @@ final class SongsTest {
             "5%0=0", "24/4/2=3", "!0", "!!7", "!7=0", "2<3", "3>2", "!(2<2)", "!(2>2)", "(5&7)=1", "(5|7)=1",
             "(0|7)=1", "!(0&7)", "0|0|3", "1&2&3", "0&1|1", "1|1&0", "1=1&2", "--5=5", "-5<0", "-2*-3=6", "!-0",
             "9999*9999*9999*9999*0=0", "9998+1=9999", "0007=7", "9999*9999*9999<0", "(1<2)+(2>1)=2",
-            "((((((3))))))=3", "!(!(!(0)))", "-(-(-3))=-3", "2-(3-4)=3", "2--3=5", "2-!3=2", "1+1=2|0"};
+            "((((((3))))))=3", "!(!(!(0)))", "-(-(-3))=-3", "2-(3-4)=3", "2--3=5", "2-!3=2", "1+1=2|0", "(2=2)=1", "(!0)=1",
+            "(1<2)=1", "(2>1)=1", "(3|0)=1", "(3&3)=1"};
         for (String one : ones) {
             Check.due(one, 1, Given.law(x, one));
             Check.due(one + " gives", 2, Math.min(2, x.sing(0, 0)));

@@ -229,6 +229,12 @@ final class ThoughtTest {
         Check.due("bad song", -1, x.fewest(-1));
         Given.law(x, "0");
         Check.due("never", -2, x.fewest(0));
+        // Only a bit of SINGER 0's brings LINE 1 to mind.
+        TuneAndWords only = Given.tunes(0, 1);
+        Given.learn(only, 1, 0, 2, 0, 1);
+        Given.law(only, "a&s=9");
+        only.mend(0, 3, 9);
+        Check.due("by one alone", 1, only.fewest(0));
         TuneAndWords y = Given.known(4);
         // LINE 3 comes up behind LINE 1, unless one who is surer has LINE 2 in mind.
         Given.law(y, "s-4-(k>0)*9");
