@@ -1061,16 +1061,16 @@ public final class TuneAndWords {
             else singing.comeOut(STICKS, line);
         }
 
-        /**
-         * It is ROUND only if the LINE behind the 60th would be sung as well: one that ends or
-         * sticks there has come to an end with 60 LINES sung.
-         */
+        /** With 60 LINES sung it is ROUND, whatever would come up: no further LINE is looked at. */
         void goOn(Singing singing) {
             if (!singing.isGoing()) return;
-            int line = comesUp(singing);
+            if (singing.size() >= SUNG_MOST) singing.comeOut(ROUND, singing.last());
+            else goOnTo(singing, comesUp(singing));
+        }
+
+        private void goOnTo(Singing singing, int line) {
             if (line < 0) singing.comeOut(ENDS, singing.last());
             else if (!singing.song().canBeSung(line)) singing.comeOut(STICKS, line);
-            else if (singing.size() >= SUNG_MOST) singing.comeOut(ROUND, singing.last());
             else singing.add(line, broughtUpBy);
         }
 

@@ -4,6 +4,8 @@ final class DeedTest {
         promise22();
         promise23();
         promise23Round();
+        nothingBehindSixty();
+        allLostBehindSixty();
         promise23Learning();
         promise24();
         promise25And26();
@@ -66,18 +68,56 @@ final class DeedTest {
         Check.due("over", -5, x.on());
         Check.due("sixty in all", 60, x.led(1));
         Check.due("none sticks", 0, x.led(2));
-        Check.due("again", 1, x.begin(0));
-        for (int i = 1; i < 60; i++) x.on();
-        Given.law(x, "0");
-        Check.due("an end with 60 sung", -2, x.on());
+    }
+
+    private static void sing(TuneAndWords x, int sl, int lines) {
+        x.begin(sl);
+        for (int i = 1; i < lines; i++) x.on();
+    }
+
+    /** With 60 LINES sung no further one is looked at; with 59 one is. */
+    private static void nothingBehindSixty() {
+        TuneAndWords x = Given.known(2);
         x.line(0, 0);
         Given.learn(x, 0, 0, 0, 2);
+        String[] laws = {"1", "0", "30-k", "!k"};
+        for (int i = 0; i < laws.length; i++) {
+            Given.law(x, "1");
+            sing(x, 0, 60);
+            Given.law(x, laws[i]);
+            Check.due("round by " + laws[i], -6, x.on());
+            led("round by " + laws[i], x, i + 1, 60 * (i + 1), 0, 60, -5);
+        }
         Given.law(x, "1");
-        x.begin(0);
-        for (int i = 1; i < 60; i++) x.on();
-        Given.law(x, "30-k");
-        Check.due("sticks with 60 sung", -22, x.on());
-        Check.due("one sticks", 1, x.led(2));
+        sing(x, 0, 59);
+        Given.law(x, "0");
+        Check.due("an end with 59 sung", -2, x.on());
+        Given.law(x, "1");
+        sing(x, 0, 59);
+        Given.law(x, "a");
+        Check.due("the 60th", 1, x.on());
+        Check.due("round", -6, x.on());
+        Given.law(x, "1");
+        sing(x, 0, 59);
+        Given.law(x, "!k");
+        Check.due("sticks with 59 sung", -22, x.on());
+        led("sticks", x, 7, 418, 1, 60, -5);
+    }
+
+    private static void allLostBehindSixty() {
+        TuneAndWords x = Given.known(2);
+        Given.law(x, "1");
+        sing(x, 1, 60);
+        Check.due("sixty", 60, x.led(4));
+        Check.due("kept", 1, x.image());
+        for (int bit = 0; bit < 4; bit++) x.has(0, bit / 2, bit % 2, 0);
+        Check.due("round", -6, x.on());
+        Check.due("over", -5, x.on());
+        Check.due("laid back", 1, x.back());
+        led("as it was", x, 1, 60, 0, 60, 60);
+        Given.law(x, "0");
+        Check.due("round again", -6, x.on());
+        led("over", x, 1, 60, 0, 60, -5);
     }
 
     private static void promise23Learning() {

@@ -213,6 +213,11 @@ final class Model {
     private void goOn(Sung s, int song) {
         List<Line> lines = songs.get(song);
         int last = s.lines.get(s.lines.size() - 1);
+        if (s.lines.size() == 60) {
+            s.how = 2;
+            s.where = last;
+            return;
+        }
         Line sung = lines.get(last);
         int found = -1, by = -1, most = 0;
         for (int singer = 0; singer < 4; singer++) {
@@ -233,7 +238,6 @@ final class Model {
         s.where = found < 0 || canBeSung(song, found) ? last : found;
         if (found < 0) s.how = 0;
         else if (!canBeSung(song, found)) s.how = 1;
-        else if (s.lines.size() == 60) s.how = 2;
         if (s.how >= 0) return;
         s.lines.add(found);
         s.by.add(by);

@@ -168,8 +168,18 @@ final class ModelTest {
     private void goOn() {
         int n = below(8) == 0 ? 70 : below(6);
         call("led", 4);
-        for (int i = 0; i < n && calls < CALLS; i++) call("on");
+        for (int i = 0; i < n && calls < CALLS; i++) {
+            if (i > 0 && model.call("led", new long[] {4}) >= 59 && below(2) == 0) changeMuch();
+            call("on");
+        }
         call("led", below(5));
+    }
+
+    /** What counts for the next LINE: less of it may be had, and another law may hold. */
+    private void changeMuch() {
+        for (int i = below(20); i > 0; i--) call("has", below(4), 100 * song + below(lines), below(2), 0);
+        if (below(2) == 0) giveLaw();
+        call("led", 4);
     }
 
     private void fewest() {

@@ -84,24 +84,30 @@ final class ThoughtTest {
         Check.holds("never the one just sung", Given.sung(x, 2).equals("ca" + "ba".repeat(29)));
     }
 
-    /** A singing whose 60th LINE is the last: nothing comes up behind it, or what comes up sticks. */
+    /** With 60 LINES sung it is ROUND, even if none would come up behind, or one that sticks; not with 59. */
     private static void sixtyLines() {
         TuneAndWords x = Given.known(12);
         Given.law(x, "5-k");
-        singing("60 and an end", x, 0, 60, 0, x.sung(0, 59, 0), x.sing(0, 3));
+        singing("60, and none would come up", x, 0, 60, 2, x.sung(0, 59, 0), x.sing(0, 3));
         Given.law(x, "6-k");
-        Check.due("60 and round", 2, x.sing(0, 1));
+        Check.due("60, and one would", 2, x.sing(0, 1));
+        TuneAndWords y = Given.known(2);
+        Given.law(y, "k<30");
+        singing("60, by turns", y, 0, 60, 2, 1, 2);
+        Given.law(y, "k<30-a");
+        singing("59 and it ends", y, 0, 59, 0, 0, 2);
+        Check.due("no 60th", -2, y.sung(0, 59, 0));
         TuneAndWords z = Given.known(2);
         z.line(0, 777);
         Given.learn(z, 0, 0, 0, 2);
         z.mend(1, 1, 0);
-        // 0 and 1 by turns, until both have come thirty times.
+        // 0 and 1 by turns, until both have come thirty times, or 1 but twenty-nine times.
         Given.law(z, "w?60-k*2;1");
-        singing("60 and it sticks", z, 0, 60, 1, 2, 2);
+        singing("60, and one that sticks would come up", z, 0, 60, 2, 1, 2);
+        Given.law(z, "w?60-k*2-a*2;1");
+        singing("59 and it sticks", z, 0, 59, 1, 2, 2);
         Given.law(z, "w?62-k*2;1");
         singing("60 and round", z, 0, 60, 2, 1, 2);
-        Given.law(z, "w?60-k*2;0");
-        singing("60 and it ends", z, 0, 60, 0, 1, 2);
     }
 
     private static void promise10() {
