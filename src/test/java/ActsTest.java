@@ -1,3 +1,6 @@
+import java.util.ArrayList;
+import java.util.List;
+
 /** Promises 29 to 38: bodies, acts, shelves, counts. */
 final class ActsTest {
     public static void main(String[] args) {
@@ -47,137 +50,20 @@ final class ActsTest {
         return x;
     }
 
-    // The kinds again, as classes of Java, to compare with.
-
-    private static final StringBuilder RAN = new StringBuilder();
-
-    private static int ran(int body) {
-        RAN.append(body).append(' ');
-        return 0;
-    }
-
-    private interface Starts {
-        int n();
-
-        default int starts(int x) {
-            return ran(1) + x + n();
-        }
-    }
-
-    private interface Tells {
-        int hums(int x);
-
-        int says(int x);
-
-        default int tells(int x) {
-            return ran(2) + hums(x) - says(1);
-        }
-    }
-
-    private static class Singing implements Starts, Tells {
-        int n;
-
-        public int n() {
-            return n;
-        }
-
-        public int hums(int x) {
-            return ran(10) + starts(x) * 2;
-        }
-
-        public int says(int x) {
-            return ran(11) + (x ^ n);
-        }
-
-        public int starts(int x) {
-            return Starts.super.starts(x);
-        }
-
-        public int tells(int x) {
-            return Tells.super.tells(x);
-        }
-    }
-
-    private static class Tuned extends Singing {
-        public int starts(int x) {
-            return ran(20) + super.starts(x) + 3;
-        }
-    }
-
-    private static class Worded extends Singing {
-        public int hums(int x) {
-            return ran(30) - super.hums(x);
-        }
-    }
-
-    private static class Rhymed extends Worded {
-        public int says(int x) {
-            return ran(40) + super.says(x) * 3;
-        }
-
-        public int hums(int x) {
-            return ran(41) + super.hums(x + 1);
-        }
-    }
-
-    private static class Round extends Tuned {
-        public int tells(int x) {
-            return ran(50) + (super.tells(x) ^ 5);
-        }
-    }
-
-    private static class Stuck extends Rhymed {
-        public int says(int x) {
-            return ran(60) + super.says(x) - starts(2);
-        }
-
-        public int tells(int x) {
-            return ran(61) + super.tells(x) + 1;
-        }
-    }
-
-    private static class Whole extends Singing {
-        public int starts(int x) {
-            return ran(70) + super.starts(x) * 2;
-        }
-    }
-
-    private static class Psalm extends Whole {
-        public int hums(int x) {
-            return ran(80) + super.hums(x) + says(2);
-        }
-
-        public int starts(int x) {
-            return ran(81) + super.starts(x) - 1;
-        }
-    }
-
-    private static int acted(Singing s, int act, int x) {
-        RAN.setLength(0);
-        switch (act) {
-            case 0: return s.starts(x);
-            case 1: return s.hums(x);
-            case 2: return s.says(x);
-            default: return s.tells(x);
-        }
-    }
-
     private static void actsAgainstJava() {
-        Singing[] all = {new Singing(), new Tuned(), new Worded(), new Rhymed(), new Round(), new Stuck(),
-            new Whole(), new Psalm()};
         int[] xs = {0, 1, -1, 5, 12345, Integer.MAX_VALUE, Integer.MIN_VALUE, 1 << 30, -77};
         TuneAndWords x = new TuneAndWords();
         for (int i = 0; i < 3; i++) x.body(i);
-        for (int kind = 0; kind < 8; kind++) all[kind].n = x.body(kind);
+        for (int kind = 0; kind < 8; kind++) x.body(kind);
         for (int kind = 0; kind < 8; kind++) {
             for (int act = 0; act < 4; act++) {
                 for (int v : xs) {
                     String call = "kind " + kind + " act " + act + " x " + v;
-                    Check.due(call, acted(all[kind], act, v), x.act(kind + 3, act, v));
-                    StringBuilder trace = new StringBuilder();
-                    for (int i = 0; x.trace(i) >= 0; i++) trace.append(x.trace(i)).append(' ');
-                    Check.holds(call + " trace " + trace + " due " + RAN, trace.toString().equals(RAN.toString()));
-                    Check.due(call + " ran", RAN.toString().split(" ").length, x.count(5));
+                    Check.due(call, Kinds.acted(kind, kind + 3, act, v), x.act(kind + 3, act, v));
+                    List<Integer> trace = new ArrayList<>();
+                    for (int i = 0; x.trace(i) >= 0; i++) trace.add(x.trace(i));
+                    Check.holds(call + " trace " + trace + " due " + Kinds.trace(), trace.equals(Kinds.trace()));
+                    Check.due(call + " ran", trace.size(), x.count(5));
                 }
             }
         }

@@ -45,6 +45,7 @@ final class Model {
     private final Object[] shelves = new Object[6];
     private final int[] sorts = new int[6];
     private final List<Integer> bodies = new ArrayList<>();
+    private List<Integer> trace = List.of();
 
     // ---- the law, read by a machine with a stack of what is open, worked out on the text itself
 
@@ -301,6 +302,8 @@ final class Model {
             case "undo": return undo();
             case "redo": return redo();
             case "body": return !in(p, 0, 7) ? -1 : bodies.size() == 50 ? -3 : add(p);
+            case "act": return act(p, q, r);
+            case "trace": return in(p, 0, Math.min(24, trace.size()) - 1) ? trace.get(p) : -1;
             case "keep": return keep(p, q);
             case "row": return row(p, q, r);
             case "put": return put(p, q, a[2]);
@@ -315,6 +318,13 @@ final class Model {
     private int add(int kind) {
         bodies.add(kind);
         return bodies.size() - 1;
+    }
+
+    private int act(int body, int act, int x) {
+        boolean may = in(body, 0, bodies.size() - 1) && in(act, 0, 3);
+        int given = may ? Kinds.acted(bodies.get(body), body, act, x) : 0;
+        trace = may ? Kinds.trace() : List.of();
+        return given;
     }
 
     private int line(int song, int twr) {
@@ -720,7 +730,8 @@ final class Model {
             case 2: return tape.length();
             case 3: return done.size();
             case 4: return bodies.size();
-            default: return what == 5 ? 0 : -1;
+            case 5: return trace.size();
+            default: return -1;
         }
     }
 }
