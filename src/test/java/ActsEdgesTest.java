@@ -234,6 +234,15 @@ final class ActsEdgesTest {
         Check.due("a new ROW", 0, x.element(0, 0));
         Check.due("the BODY is gone", -12, x.taken(0, 6));
         Check.due("the BODY is kept elsewhere", 6, x.taken(3, 6));
+        for (int sort = 0; sort < 5; sort++) {
+            TuneAndWords y = House.usual();
+            Check.due("a ROW where BODY 7 was", 3, y.keep(0, 7) + y.row(0, sort, 2) + y.put(0, 1, 1));
+            Check.due("the ROW's element", 1, y.element(0, 1));
+            Check.due("nothing where a ROW was", 1, y.keep(0, -1));
+            Check.due("the ROW is gone", Long.MIN_VALUE, y.element(0, 1));
+            Check.due("nothing is there", -11, y.put(0, 1, 1));
+            Check.due("nothing is there", -11, y.taken(0, 0));
+        }
     }
 
     private static void rowRanges() {

@@ -11,6 +11,7 @@ final class DeedEdgesTest {
         beginSticks();
         onWithoutSinging();
         onEachLine();
+        onTeachesNobody();
         onSticksAtEachLine();
         onEnds();
         onGoesRound();
@@ -138,6 +139,23 @@ final class DeedEdgesTest {
         y.begin(0);
         for (int i = 1; i < 60; i++) Check.due("on: round by twelve", i % 12, y.on());
         Check.due("on: ROUND", -6, y.on());
+    }
+
+    /** 22, 23: only has() tells who HAS what; singing teaches nobody. */
+    private static void onTeachesNobody() {
+        TuneAndWords x = known(6, "a");
+        for (int line = 0; line < 6; line++) {
+            x.has(0, line, line % 2, 0);
+            x.has(1 + line % 3, line, line % 2, 1);
+        }
+        int bits = x.count(1);
+        x.begin(0);
+        for (int line = 0; line < 6; line++) {
+            Check.due("who HAS its tune", line % 2 == 0 ? 2 << line % 3 : 1, x.of(line, 6));
+            Check.due("who HAS its words", line % 2 == 1 ? 2 << line % 3 : 1, x.of(line, 7));
+            Check.due("the next one", line == 5 ? -2 : line + 1, x.on());
+        }
+        Check.due("as many bits as before", bits, x.count(1));
     }
 
     /** 23: -20 less a LINE that STICKS: -20 to -31. */
@@ -532,6 +550,7 @@ final class DeedEdgesTest {
         x.image();
         x.back();
         x.begin(0);
+        x.on();
         Given.law(x, "1");
         Check.due("CHANGES still", 2, x.count(3));
         Check.due("redo: still", 1, x.redo());

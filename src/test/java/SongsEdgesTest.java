@@ -175,6 +175,9 @@ final class SongsEdgesTest {
             Check.due("line: the 12th stays", 3, x.of(100 * song + 11, 2));
             Check.due("line: no 13th", -1, x.of(100 * song + 12, 2));
         }
+        TuneAndWords all = new TuneAndWords();
+        for (int i = 0; i < 36; i++) Check.due("line: twelve of each", i / 3, all.line(i % 3, 100 * (i / 3 % 8)));
+        Check.due("line: thirty-six", 36, all.count(0));
         House.refused("line: FULL", USUAL, -3, x -> x.line(1, 777));
         for (int song = 0; song < 3; song++) {
             int it = song;

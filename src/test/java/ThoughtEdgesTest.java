@@ -24,6 +24,7 @@ final class ThoughtEdgesTest {
         oneBitOfLikeOnes();
         oneBitNobodyLacksAny();
         oneBitMayDoHarm();
+        oneBitFromLineZero();
         fewestRanges();
         fewestUpToTwo();
         fewestByOneAlone();
@@ -230,6 +231,11 @@ final class ThoughtEdgesTest {
         Check.due("sung: LINE 2 STICKS, it is none", -2, x.sung(0, 2, 0));
         Check.due("sung: LINE 2 STICKS, nobody brought it up", -2, x.sung(0, 2, 1));
         Check.due("sung: the only one", 4, x.sung(4, 0, 0));
+        Given.addTunes(x, 2, 0, 1, 2);
+        Given.learn(x, 2, 2, 2, 1, 2);
+        Check.due("sung: the first of SONG 2", 1, x.sung(201, 0, 0));
+        Check.due("sung: the second of SONG 2", 2, x.sung(201, 1, 0));
+        Check.due("sung: who brought it up in SONG 2", 2, x.sung(201, 1, 1));
         TuneAndWords y = all();
         for (int k = 0; k < 12; k++) Check.due("sung: " + k, k, y.sung(0, k, 0));
         Check.due("sung: twelve are all", -2, y.sung(0, 12, 0));
@@ -294,6 +300,13 @@ final class ThoughtEdgesTest {
             }
             Check.due("sung RIGHT from some beginning", bits, x.runUp(0, 2));
             Check.due("NOBODY", 63 - bits, x.runUp(0, 3));
+            TuneAndWords two = Given.tunes(0, 0, 0, 0, 0, 0);
+            for (int line = 0; line < 6; line++) {
+                Given.learn(two, line % 3, 0, line % 2, line);
+                if ((bits >> line & 1) == 1) Given.learn(two, 3, 0, 1 - line % 2, line);
+            }
+            Check.due("sung RIGHT by two", bits, two.runUp(0, 2));
+            Check.due("NOBODY: not what two can sing", 63 - bits, two.runUp(0, 3));
         }
     }
 
@@ -380,6 +393,17 @@ final class ThoughtEdgesTest {
         for (int what = 0; what < 2; what++) x.has(3, 1, what, 0);
         oneBit("the first one that does no harm", x, 0, 3 * 24 + 2, 3);
         Check.due("fewest: none is needed, though one would do harm", 0, x.fewest(0));
+    }
+
+    /** 12: RIGHT from LINE 0, not from where the run up would be. */
+    private static void oneBitFromLineZero() {
+        TuneAndWords x = Given.tunes(0, 1, 2, 3, 4);
+        Given.learn(x, 0, 0, 2, 2, 3);
+        Given.learn(x, 0, 0, 0, 4);
+        Check.due("the run up", 2, x.runUp(0, 0));
+        oneBit("none is enough for LINE 0", x, 0, 0, 0);
+        Given.learn(x, 0, 0, 0, 0);
+        oneBit("the words of LINE 0", x, 0, 1, 1);
     }
 
     private static void fewestRanges() {
