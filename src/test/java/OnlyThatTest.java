@@ -16,6 +16,7 @@ final class OnlyThatTest {
     private static final Map<House.Made, Map<String, String>> SEEN = new LinkedHashMap<>();
     private static final House.Made ON = OnlyThatTest::singing;
     private static final House.Made OVER = () -> singingOver(singing());
+    private static final House.Made BARE = OnlyThatTest::bare;
 
     public static void main(String[] args) {
         LOOKS.put("LINES", OnlyThatTest::lines);
@@ -83,8 +84,18 @@ final class OnlyThatTest {
         x.row(2, 2, 4);
         x.put(2, 3, -70000);
         x.keep(3, 4);
-        x.row(4, 2, 3);
+        x.row(5, 2, 3);
         x.act(2, 3, 9);
+        return x;
+    }
+
+    /** LINES, of which some is had; no singing, no CHANGES, no IMAGE. */
+    private static TuneAndWords bare() {
+        TuneAndWords x = new TuneAndWords();
+        for (int song = 0; song < 3; song++) {
+            Given.addTunes(x, song, 1, 2, 3);
+            Given.learn(x, song, song, 2, 0, 1);
+        }
         return x;
     }
 
@@ -198,7 +209,7 @@ final class OnlyThatTest {
         for (int shelf = 0; shelf < 6; shelf++) {
             int it = shelf;
             String name = "SHELF " + shelf;
-            if (it != 5) only("keep nothing", ON, x -> x.keep(it, -1), name);
+            if (it != 4) only("keep nothing", ON, x -> x.keep(it, -1), name);
             only("keep a BODY", ON, x -> x.keep(it, 7), name);
             only("row", ON, x -> x.row(it, 3, 5), name);
             for (int k = 0; k < 8; k++) {
@@ -207,10 +218,10 @@ final class OnlyThatTest {
             }
             only("element", ON, x -> x.element(it, 0));
         }
-        for (int shelf : new int[] {0, 1, 2, 4}) only("put", ON, x -> x.put(shelf, 1, 6), "SHELF " + shelf);
+        for (int shelf : new int[] {0, 1, 2, 5}) only("put", ON, x -> x.put(shelf, 1, 6), "SHELF " + shelf);
         only("shift", ON, x -> x.shift(0, 0, 1, 0, 2), "SHELF 1");
         only("shift, back", ON, x -> x.shift(1, 0, 0, 1, 2), "SHELF 0");
-        only("shift, ints", ON, x -> x.shift(2, 1, 4, 0, 3), "SHELF 4");
+        only("shift, ints", ON, x -> x.shift(2, 1, 5, 0, 3), "SHELF 5");
         only("shift, the same ROW", ON, x -> x.shift(2, 3, 2, 0, 1), "SHELF 2");
         only("shift, none", ON, x -> x.shift(0, 0, 1, 0, 0));
         // What is on a SHELF behind a shift is its own.
@@ -229,11 +240,15 @@ final class OnlyThatTest {
         only("lines, -12", ON, x -> x.lines(0, 2, 0, 1));
         only("begin, STATE", ON, x -> x.begin(0));
         only("on, STATE", OVER, x -> x.on());
+        only("on, STATE", BARE, x -> x.on());
+        only("back, STATE", BARE, x -> x.back());
+        only("undo, STATE", BARE, x -> x.undo());
+        only("redo, STATE", BARE, x -> x.redo());
         only("body, BAD", ON, x -> x.body(8));
         only("keep, BAD", ON, x -> x.keep(0, 8));
         only("row, BAD", ON, x -> x.row(0, 0, 61));
         only("row, -14", ON, x -> x.row(0, 0, -1));
-        only("put, -11", ON, x -> x.put(5, 0, 1));
+        only("put, -11", ON, x -> x.put(4, 0, 1));
         only("put, -12", ON, x -> x.put(3, 0, 1));
         only("put, -13", ON, x -> x.put(0, 3, 1));
         only("shift, -13", ON, x -> x.shift(0, 0, 1, 1, 3));
@@ -270,10 +285,28 @@ final class OnlyThatTest {
         Check.due("a singing is on", 3, x.led(4));
         Check.due("it goes on", 3, x.on());
         Check.due("CHANGES that may be UNDONE", 4, x.count(3));
-        Check.due("CHANGES that may be DONE AGAIN", 1, x.redo());
         Check.due("bodies that ran", 10, x.count(5));
         Check.due("no singing is on", -5, OVER.x().led(4));
         Check.due("singings", 2, OVER.x().led(0));
+        int[] sures = {5, 5, 7, 6};
+        for (int singer = 0; singer < 4; singer++) Check.due("SURE", sures[singer], x.of(singer, 3));
+        Check.due("CHANGES that may be DONE AGAIN", 1, x.redo());
+        // The TUNES, and by their places who HAS tune and words, of each SONG.
+        lineUp(0, new int[] {1, 2, 3, 4, 1}, new int[] {1, 1, 0, 3, 0}, new int[] {4, 4, 4, 0, 0});
+        lineUp(1, new int[] {3, 4, 1, 2, 5, 6}, new int[] {2, 2, 2, 2, 2, 2}, new int[] {2, 2, 2, 2, 2, 2});
+        lineUp(2, new int[] {5, 5, 7, 2, 5}, new int[] {8, 8, 8, 8, 8}, new int[] {1, 1, 1, 0, 1});
+    }
+
+    private static void lineUp(int song, int[] tunes, int[] haveTune, int[] haveWords) {
+        TuneAndWords x = singing();
+        Check.due("LINES", tunes.length, x.of(song, 5));
+        for (int line = 0; line < tunes.length; line++) {
+            Check.due("TUNE", tunes[line], x.of(100 * song + line, 0));
+            Check.due("WORD", song == 0 && line == 1 ? 6 : 0, x.of(100 * song + line, 1));
+            Check.due("RHYME", 0, x.of(100 * song + line, 2));
+            Check.due("who HAS its tune", haveTune[line], x.of(100 * song + line, 6));
+            Check.due("who HAS its words", haveWords[line], x.of(100 * song + line, 7));
+        }
     }
 
     private static void add(StringBuilder seen, long answer) {
